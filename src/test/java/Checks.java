@@ -1,0 +1,72 @@
+import java.util.function.Consumer;
+import java.util.function.Supplier;
+
+/** Counts the answers, and prints those that are not as due. */
+final class Checks {
+    private int made;
+    private int wrong;
+
+    void same(String what, long due, long got) {
+        note(what, String.valueOf(due), String.valueOf(got));
+    }
+
+    void same(String what, boolean due, boolean got) {
+        note(what, String.valueOf(due), String.valueOf(got));
+    }
+
+    void same(String what, String due, String got) {
+        note(what, due, got);
+    }
+
+    /** The row of answers is one text, so that one line of a test tells a whole row. */
+    void row(String what, String due, int... got) {
+        StringBuilder text = new StringBuilder();
+        for (int answer : got) {
+            text.append(text.length() == 0 ? "" : " ").append(answer);
+        }
+        note(what, due, text.toString());
+    }
+
+    void noIndex(String what, Supplier<LockgateRouter> maker, Consumer<LockgateRouter> call) {
+        refused(what, maker, call, IndexOutOfBoundsException.class);
+    }
+
+    void noArgument(String what, Supplier<LockgateRouter> maker, Consumer<LockgateRouter> call) {
+        refused(what, maker, call, IllegalArgumentException.class);
+    }
+
+    void noState(String what, Supplier<LockgateRouter> maker, Consumer<LockgateRouter> call) {
+        refused(what, maker, call, IllegalStateException.class);
+    }
+
+    /**
+     * The very class is asked for, as what the machine throws by itself is of a subclass. A twin tells
+     * that nothing changed: a look ahead of the call and one behind it would be above 512 calls.
+     */
+    private void refused(String what, Supplier<LockgateRouter> maker, Consumer<LockgateRouter> call, Class<?> due) {
+        LockgateRouter net = maker.get();
+        String got = "nothing";
+        try {
+            call.accept(net);
+        } catch (RuntimeException thrown) {
+            got = thrown.getClass().getName();
+        }
+        note(what + " throws", due.getName(), got);
+        note(what + " changes nothing", Snapshot.of(maker.get()), Snapshot.of(net));
+    }
+
+    private void note(String what, String due, String got) {
+        made++;
+        if (!due.equals(got)) {
+            wrong++;
+            System.out.println("WRONG " + what + ": answered " + got + ", due is " + due);
+        }
+    }
+
+    void end(String name) {
+        System.out.println(name + ": " + made + " checks, " + wrong + " wrong");
+        if (wrong != 0 || made == 0) {
+            System.exit(1);
+        }
+    }
+}
