@@ -40,8 +40,7 @@ final class Checks {
     }
 
     /**
-     * The very class is asked for, as what the machine throws by itself is of a subclass. A twin tells
-     * that nothing changed: a look ahead of the call and one behind it would be above 512 calls.
+     * A twin tells that nothing changed: a look ahead of the call and one behind it would be above 512 calls.
      */
     private void refused(String what, Supplier<LockgateRouter> maker, Consumer<LockgateRouter> call, Class<?> due) {
         LockgateRouter net = maker.get();
@@ -49,10 +48,21 @@ final class Checks {
         try {
             call.accept(net);
         } catch (RuntimeException thrown) {
-            got = thrown.getClass().getName();
+            got = nameOf(thrown);
         }
-        note(what + " throws", due.getName(), got);
+        note(what + " throws", due.getSimpleName(), got);
         note(what + " changes nothing", Snapshot.of(maker.get()), Snapshot.of(net));
+    }
+
+    /**
+     * The program throws itself or not at all. What the machine throws for an array has a class of its own;
+     * what a list throws has the document's, but comes from the library.
+     */
+    static String nameOf(RuntimeException thrown) {
+        String name = thrown.getClass().getSimpleName();
+        StackTraceElement[] trace = thrown.getStackTrace();
+        boolean own = trace.length > 0 && trace[0].getClassName().equals("LockgateRouter");
+        return own ? name : name + " that the program did not throw";
     }
 
     private void note(String what, String due, String got) {

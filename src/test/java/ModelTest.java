@@ -101,7 +101,7 @@ public final class ModelTest {
                 default: return String.valueOf(number(net, name, a));
             }
         } catch (RuntimeException thrown) {
-            return thrown.getClass().getSimpleName();
+            return Checks.nameOf(thrown);
         }
     }
 
