@@ -332,19 +332,8 @@ public final class BargesTest {
         CHECKS.row("27: who is laid by waits no more", "0 -1 0", net.queue(2), net.queued(2, 0), net.move(2));
     }
 
-    /** 1 goes to 3 by 0, and 0 by 1, as the canal from 0 to 3 was shut. */
-    private static LockgateRouter looping() {
-        LockgateRouter net = new LockgateRouter();
-        net.dig(0, 1, 1, 0);
-        net.dig(0, 3, 9, 0);
-        net.settle(5);
-        net.setGate(1, false);
-        net.settle(1);
-        return net;
-    }
-
     private static void promise28Repeats() {
-        LockgateRouter net = looping();
+        LockgateRouter net = Nets.looping();
         net.setOut(1, 3, 20);
         net.move(1);
         CHECKS.row("28: a new basin", "0 0", net.repeats(0), net.basinOf(0));
@@ -352,7 +341,7 @@ public final class BargesTest {
         CHECKS.row("28: where it set out", "1 1", net.repeats(0), net.basinOf(0));
         net.move(2);
         CHECKS.row("28: each time", "3 1", net.repeats(0), net.basinOf(0));
-        LockgateRouter dead = looping();
+        LockgateRouter dead = Nets.looping();
         dead.setOut(1, 3, 2);
         dead.move(2);
         CHECKS.row("28: one that is laid by came there too", "2 1 1", dead.state(0), dead.basinOf(0), dead.repeats(0));

@@ -35,17 +35,6 @@ public final class TablesTest {
         return net;
     }
 
-    /** 1 goes to 3 by 0, and 0 by 1, as the canal from 0 to 3 was shut. */
-    private static LockgateRouter looping() {
-        LockgateRouter net = new LockgateRouter();
-        net.dig(0, 1, 1, 0);
-        net.dig(0, 3, 9, 0);
-        net.settle(5);
-        net.setGate(1, false);
-        net.settle(1);
-        return net;
-    }
-
     private static int[] distances(LockgateRouter net, int basin) {
         int[] all = new int[8];
         for (int other = 0; other < 8; other++) {
@@ -140,7 +129,7 @@ public final class TablesTest {
 
     private static void promise7Refuses() {
         for (int ticks : new int[] {0, 51, -1, Integer.MIN_VALUE, Integer.MAX_VALUE}) {
-            CHECKS.noArgument("7: settle " + ticks, TablesTest::looping, net -> net.settle(ticks));
+            CHECKS.noArgument("7: settle " + ticks, Nets::looping, net -> net.settle(ticks));
         }
         CHECKS.same("7: ticks of tables are no ticks of barges", 0, settledChain().ticks());
     }
@@ -228,7 +217,7 @@ public final class TablesTest {
     }
 
     private static void promise20IsLoop() {
-        LockgateRouter net = looping();
+        LockgateRouter net = Nets.looping();
         CHECKS.row("20: canals", "0 0", net.canalTo(0, 3), net.canalTo(1, 3));
         CHECKS.same("20: 0 to 3 by 1 and 0", true, net.isLoop(0, 3));
         CHECKS.same("20: 1 to 3 by 0 and 1", true, net.isLoop(1, 3));
@@ -248,14 +237,14 @@ public final class TablesTest {
         chain.settle(50);
         CHECKS.same("20: gone", false, chain.isLoop(0, 7));
         for (int basin : NO_BASINS) {
-            CHECKS.noIndex("20: basin " + basin, TablesTest::looping, other -> other.isLoop(basin, 0));
-            CHECKS.noIndex("20: other " + basin, TablesTest::looping, other -> other.isLoop(0, basin));
+            CHECKS.noIndex("20: basin " + basin, Nets::looping, other -> other.isLoop(basin, 0));
+            CHECKS.noIndex("20: other " + basin, Nets::looping, other -> other.isLoop(0, basin));
         }
     }
 
     private static void promise21Loops() {
         CHECKS.same("21: settled", 0, settledChain().loops());
-        CHECKS.same("21: 0 and 1 to 3", 2, looping().loops());
+        CHECKS.same("21: 0 and 1 to 3", 2, Nets.looping().loops());
         LockgateRouter net = settledChain();
         net.setGate(3, false);
         CHECKS.same("21: ahead of a tick", 0, net.loops());
