@@ -31,19 +31,9 @@ public final class BargesTest {
         CHECKS.end("BargesTest");
     }
 
-    /** 0 - 1 - 2 - ... with lifts of 0, settled; each canal is numbered as its upper basin. */
-    private static LockgateRouter chain(int canals) {
-        LockgateRouter net = new LockgateRouter();
-        for (int i = 0; i < canals; i++) {
-            net.dig(i, i + 1, 1, 0);
-        }
-        net.settle(10);
-        return net;
-    }
-
     /** Barge 0 waits in 1 and comes from 0, barge 1 has arrived in 1, barge 2 is laid by in 1. */
     private static LockgateRouter three() {
-        LockgateRouter net = chain(3);
+        LockgateRouter net = Nets.chain(3);
         net.setOut(0, 3, 9);
         net.setOut(0, 1, 9);
         net.setOut(0, 3, 1);
@@ -53,8 +43,8 @@ public final class BargesTest {
     }
 
     private static LockgateRouter withFullBasin() {
-        LockgateRouter net = chain(2);
-        fill(net, 0, 2, 6);
+        LockgateRouter net = Nets.chain(2);
+        Nets.fill(net, 0, 2, 6);
         return net;
     }
 
@@ -67,7 +57,7 @@ public final class BargesTest {
     }
 
     private static LockgateRouter with1990Ticks() {
-        LockgateRouter net = chain(2);
+        LockgateRouter net = Nets.chain(2);
         for (int i = 0; i < 39; i++) {
             net.move(50);
         }
@@ -76,14 +66,8 @@ public final class BargesTest {
         return net;
     }
 
-    private static void fill(LockgateRouter net, int basin, int destination, int barges) {
-        for (int i = 0; i < barges; i++) {
-            net.setOut(basin, destination, 20);
-        }
-    }
-
     private static void promise8SetOut() {
-        LockgateRouter net = chain(2);
+        LockgateRouter net = Nets.chain(2);
         CHECKS.row("8: numbers", "0 1 2", net.setOut(0, 2, 1), net.setOut(1, 1, 20), net.setOut(0, 7, 20));
         CHECKS.row("8: at its destination it has arrived", "0 1 0", net.state(0), net.state(1), net.state(2));
         CHECKS.row("8: the end of the queue", "2 0 2 -1", net.queue(0), net.queued(0, 0), net.queued(0, 1), net.queued(0, 2));
@@ -112,9 +96,9 @@ public final class BargesTest {
         LockgateRouter net = withFullBasin();
         CHECKS.row("8: at its destination it needs no place", "6 1 6", net.setOut(0, 0, 1), net.state(6), net.queue(0));
         CHECKS.row("8: a full destination is no matter", "7 0", net.setOut(1, 0, 1), net.state(7));
-        LockgateRouter marked = chain(2);
+        LockgateRouter marked = Nets.chain(2);
         marked.setMark(0, 1);
-        fill(marked, 0, 2, 6);
+        Nets.fill(marked, 0, 2, 6);
         CHECKS.same("8: the mark does not keep from setting out", 6, marked.queue(0));
     }
 
@@ -127,7 +111,7 @@ public final class BargesTest {
     }
 
     private static void promise9OrderOfBasins() {
-        LockgateRouter net = chain(2);
+        LockgateRouter net = Nets.chain(2);
         net.setOut(2, 0, 9);
         net.setOut(0, 2, 9);
         CHECKS.same("9: two are sent", 2, net.move(1));
@@ -138,32 +122,32 @@ public final class BargesTest {
     }
 
     private static void promise9NotTwiceInATick() {
-        LockgateRouter net = chain(4);
+        LockgateRouter net = Nets.chain(4);
         net.setOut(0, 4, 9);
         CHECKS.row("9: one canal a tick, up", "1 1", net.move(1), net.basinOf(0));
         CHECKS.row("9: another one a tick", "1 2", net.move(1), net.basinOf(0));
         CHECKS.row("9: several ticks count together", "2 4", net.move(5), net.basinOf(0));
-        LockgateRouter down = chain(4);
+        LockgateRouter down = Nets.chain(4);
         down.setOut(4, 0, 9);
         CHECKS.row("9: one canal a tick, down", "1 3", down.move(1), down.basinOf(0));
-        LockgateRouter behind = chain(3);
+        LockgateRouter behind = Nets.chain(3);
         behind.setOut(0, 3, 9);
         behind.setOut(1, 3, 9);
         CHECKS.row("9: the first one goes although one came behind it", "2 1 2", behind.move(1), behind.basinOf(0), behind.basinOf(1));
     }
 
     private static void promise9OnlyTheFirst() {
-        LockgateRouter net = chain(1);
+        LockgateRouter net = Nets.chain(1);
         net.setOut(0, 7, 9);
         net.setOut(0, 1, 9);
         CHECKS.row("9: one without a way holds up those behind", "0 2 0 1", net.move(4), net.queue(0), net.queued(0, 0), net.queued(0, 1));
-        LockgateRouter three = chain(1);
-        fill(three, 0, 1, 3);
+        LockgateRouter three = Nets.chain(1);
+        Nets.fill(three, 0, 1, 3);
         CHECKS.row("9: one a tick", "1 2 1", three.move(1), three.queue(0), three.queued(0, 0));
     }
 
     private static void promise9WaitsWithoutAWay() {
-        LockgateRouter net = chain(1);
+        LockgateRouter net = Nets.chain(1);
         net.setOut(0, 1, 9);
         net.setGate(0, false);
         CHECKS.row("9: a shut gate", "0 0 9 0", net.move(3), net.state(0), net.life(0), net.hops(0));
@@ -188,31 +172,31 @@ public final class BargesTest {
     }
 
     private static void promise9FullBasinAhead() {
-        LockgateRouter net = chain(2);
-        fill(net, 1, 7, 6);
+        LockgateRouter net = Nets.chain(2);
+        Nets.fill(net, 1, 7, 6);
         net.setOut(0, 2, 9);
         CHECKS.row("9: not into a full basin", "0 0 6", net.move(4), net.basinOf(6), net.queue(1));
-        LockgateRouter goal = chain(2);
-        fill(goal, 1, 7, 6);
+        LockgateRouter goal = Nets.chain(2);
+        Nets.fill(goal, 1, 7, 6);
         goal.setOut(0, 1, 9);
         CHECKS.row("9: into a full one that is the destination", "1 1 6", goal.move(1), goal.state(6), goal.queue(1));
-        LockgateRouter five = chain(2);
+        LockgateRouter five = Nets.chain(2);
         five.setMark(1, 6);
-        fill(five, 1, 7, 5);
+        Nets.fill(five, 1, 7, 5);
         five.setOut(0, 2, 9);
         CHECKS.row("9: 5 are not full", "1 6", five.move(1), five.queue(1));
-        LockgateRouter leaves = chain(2);
+        LockgateRouter leaves = Nets.chain(2);
         leaves.setMark(0, 6);
-        fill(leaves, 0, 2, 6);
+        Nets.fill(leaves, 0, 2, 6);
         leaves.setOut(1, 0, 9);
         CHECKS.row("9: one place was made in the same tick", "2 5", leaves.move(1), leaves.queue(0));
     }
 
     private static void promise9MarkAndEvenTicks() {
-        LockgateRouter net = chain(3);
+        LockgateRouter net = Nets.chain(3);
         net.setMark(1, 2);
         net.setGate(1, false);
-        fill(net, 0, 3, 6);
+        Nets.fill(net, 0, 3, 6);
         CHECKS.row("9: below the mark, odd and even", "1 1", net.move(1), net.move(1));
         CHECKS.row("9: at the mark, odd", "0 2", net.move(1), net.queue(1));
         CHECKS.row("9: at the mark, even", "1 3", net.move(1), net.queue(1));
@@ -220,20 +204,20 @@ public final class BargesTest {
         net.setMark(1, 5);
         CHECKS.row("9: a higher mark, odd", "1 5", net.move(1), net.queue(1));
         CHECKS.row("9: even again", "1 6 0", net.move(1), net.queue(1), net.queue(0));
-        LockgateRouter first = chain(2);
-        fill(first, 1, 7, 3);
+        LockgateRouter first = Nets.chain(2);
+        Nets.fill(first, 1, 7, 3);
         first.setOut(0, 2, 9);
         CHECKS.same("9: 3 are below the first mark", 1, first.move(1));
-        LockgateRouter fourth = chain(2);
-        fill(fourth, 1, 7, 4);
+        LockgateRouter fourth = Nets.chain(2);
+        Nets.fill(fourth, 1, 7, 4);
         fourth.setOut(0, 2, 9);
         CHECKS.row("9: 4 are not", "0 1", fourth.move(1), fourth.move(1));
     }
 
     private static void promise9MarkIsNotForTheDestination() {
-        LockgateRouter net = chain(2);
+        LockgateRouter net = Nets.chain(2);
         net.setMark(1, 1);
-        fill(net, 1, 7, 3);
+        Nets.fill(net, 1, 7, 3);
         net.setOut(0, 1, 9);
         CHECKS.row("9: to the destination in an odd tick", "1 1 1", net.move(1), net.ticks(), net.state(3));
     }
@@ -307,7 +291,7 @@ public final class BargesTest {
     }
 
     private static void promise26And27HopsAndLife() {
-        LockgateRouter net = chain(3);
+        LockgateRouter net = Nets.chain(3);
         net.setOut(0, 3, 9);
         net.move(1);
         CHECKS.row("26, 27: one hop", "1 8", net.hops(0), net.life(0));
@@ -323,7 +307,7 @@ public final class BargesTest {
     }
 
     private static void promise27LifeEnds() {
-        LockgateRouter net = chain(3);
+        LockgateRouter net = Nets.chain(3);
         net.setOut(0, 2, 2);
         net.setOut(0, 3, 2);
         net.move(4);
@@ -345,7 +329,7 @@ public final class BargesTest {
         dead.setOut(1, 3, 2);
         dead.move(2);
         CHECKS.row("28: one that is laid by came there too", "2 1 1", dead.state(0), dead.basinOf(0), dead.repeats(0));
-        LockgateRouter through = chain(3);
+        LockgateRouter through = Nets.chain(3);
         through.setOut(0, 3, 9);
         through.setOut(3, 3, 9);
         through.move(5);
@@ -353,7 +337,7 @@ public final class BargesTest {
     }
 
     private static void promise29And30Queues() {
-        LockgateRouter net = chain(2);
+        LockgateRouter net = Nets.chain(2);
         net.setOut(0, 2, 9);
         net.setOut(1, 0, 9);
         net.setOut(0, 2, 9);
@@ -366,7 +350,7 @@ public final class BargesTest {
     }
 
     private static void promise31LaidBy() {
-        LockgateRouter net = chain(3);
+        LockgateRouter net = Nets.chain(3);
         CHECKS.same("31: none", 0, net.laidBy());
         net.setOut(0, 3, 1);
         net.setOut(0, 3, 3);

@@ -39,19 +39,35 @@ final class Checks {
         refused(what, maker, call, IllegalStateException.class);
     }
 
+    void refused(String what, Supplier<LockgateRouter> maker, Consumer<LockgateRouter> call, Class<?> due) {
+        note(what + " throws", due.getSimpleName(), outcome(maker.get(), call));
+        unchanged(what, maker, call);
+    }
+
+    void answered(String what, Supplier<LockgateRouter> maker, Consumer<LockgateRouter> call) {
+        note(what + " throws", "nothing", outcome(maker.get(), call));
+    }
+
     /**
-     * A twin tells that nothing changed: a look ahead of the call and one behind it would be above 512 calls.
+     * A twin tells that nothing changed, and two more tell that nothing is to change later on: to look ahead of
+     * the call and behind it at one object alone would be above 512 calls.
      */
-    private void refused(String what, Supplier<LockgateRouter> maker, Consumer<LockgateRouter> call, Class<?> due) {
-        LockgateRouter net = maker.get();
-        String got = "nothing";
+    void unchanged(String what, Supplier<LockgateRouter> maker, Consumer<LockgateRouter> call) {
+        LockgateRouter now = maker.get();
+        LockgateRouter later = maker.get();
+        outcome(now, call);
+        outcome(later, call);
+        note(what + " changes nothing", Snapshot.of(maker.get()), Snapshot.of(now));
+        note(what + " changes nothing of later calls", Afterwards.of(maker.get()), Afterwards.of(later));
+    }
+
+    private static String outcome(LockgateRouter net, Consumer<LockgateRouter> call) {
         try {
             call.accept(net);
+            return "nothing";
         } catch (RuntimeException thrown) {
-            got = nameOf(thrown);
+            return nameOf(thrown);
         }
-        note(what + " throws", due.getSimpleName(), got);
-        note(what + " changes nothing", Snapshot.of(maker.get()), Snapshot.of(net));
     }
 
     /**
