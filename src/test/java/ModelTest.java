@@ -71,7 +71,8 @@ public final class ModelTest {
             case "rain": return new int[] {basin, in(random, 1, random.nextInt(4) == 0 ? 200 : 40)};
             case "dry": return new int[] {in(random, 1, random.nextInt(8) == 0 ? 50 : 4)};
             case "settle": return new int[] {in(random, 1, random.nextInt(4) == 0 ? 50 : 3)};
-            case "move": return new int[] {in(random, 1, random.nextInt(4) == 0 ? 50 : 1 + longest / 4)};
+            // The runs with the longest moves come to 2000 ticks, and are refused more.
+            case "move": return new int[] {longest == 50 ? in(random, 40, 50) : in(random, 1, random.nextInt(4) == 0 ? 50 : 1 + longest / 4)};
             case "setOut": return new int[] {basin, other, in(random, 1, 20)};
             case "cost":
             case "canPass": return new int[] {in(random, 0, 13)};

@@ -27,6 +27,9 @@ public final class TermsOfWaterTest {
         aDryDayTakesNotBelow5();
         dryDaysFrom1To50();
         waterIsNeverBelow5NorAbove200();
+        waterOfAllBasins();
+        lostAbove200ByLocksAndRain();
+        atMost512Calls();
         CHECKS.end("TermsOfWaterTest");
     }
 
@@ -339,5 +342,42 @@ public final class TermsOfWaterTest {
         CHECKS.row("three locks of 9 ask for 27", "2 5 200 18 2", net.move(10), net.water(0), net.water(1), net.spilt(), net.queue(0));
         net.dry(50);
         CHECKS.row("dry days behind locks", "5 50", net.water(0), net.water(1));
+    }
+
+    private static void waterOfAllBasins() {
+        LockgateRouter net = new LockgateRouter();
+        for (int basin = 0; basin < 8; basin++) {
+            net.rain(basin, 139);
+        }
+        CHECKS.row("one less than full each", "1592 0", net.allWater(), net.spilt());
+        for (int basin = 0; basin < 8; basin++) {
+            net.rain(basin, 2);
+            CHECKS.row("full up to " + basin, (1593 + basin) + " " + (1 + basin), net.allWater(), net.spilt());
+        }
+        CHECKS.same("49 dry days", 8 * 53, net.dry(49) == 0 ? net.allWater() : -1);
+        net.dry(15);
+        CHECKS.same("8 each", 64, net.allWater());
+        CHECKS.row("5 each", "8 40", net.dry(1), net.allWater());
+        CHECKS.row("and no less", "8 40 8", net.dry(50), net.allWater(), net.spilt());
+    }
+
+    private static void lostAbove200ByLocksAndRain() {
+        LockgateRouter net = lock(200, 190, 9, true);
+        net.setOut(1, 0, 1);
+        net.setOut(0, 1, 1);
+        CHECKS.row("none by the first, 8 by the second", "2 8", net.move(1), net.spilt());
+        CHECKS.row("9 by the third", "1 17", net.move(1), net.spilt());
+        CHECKS.row("and 3 by rain", "200 20", net.rain(1, 3), net.spilt());
+        CHECKS.row("and 1 by rain elsewhere", "200 21", net.rain(0, 28), net.spilt());
+        CHECKS.row("a dry day loses none that way", "6 21", net.dry(1), net.spilt());
+        CHECKS.row("nor does rain that has a place", "200 21", net.rain(0, 3), net.spilt());
+    }
+
+    private static void atMost512Calls() {
+        LockgateRouter net = new LockgateRouter();
+        for (int call = 1; call < 512; call++) {
+            net.rain(0, 200);
+        }
+        CHECKS.same("the 512th call", 511 * 200 - 140, net.spilt());
     }
 }
