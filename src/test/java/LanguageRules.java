@@ -316,12 +316,12 @@ final class LanguageRules extends TreePathScanner<Void, Void> {
 
     @Override
     public Void visitBinary(BinaryTree tree, Void nothing) {
-        boolean compares = tree.getKind() == Tree.Kind.EQUAL_TO || tree.getKind() == Tree.Kind.NOT_EQUAL_TO;
-        boolean ofTexts = is(TEXT, tree.getLeftOperand()) || is(TEXT, tree.getRightOperand());
-        if (ofTexts && tree.getKind() == Tree.Kind.PLUS) {
+        boolean joins = is(TEXT, tree.getLeftOperand()) || is(TEXT, tree.getRightOperand());
+        if (joins && tree.getKind() == Tree.Kind.PLUS) {
             fault(10, tree, "texts joined by +");
         }
-        if (compares && (ofTexts || (is(NUMBER, tree.getLeftOperand()) && is(NUMBER, tree.getRightOperand())))) {
+        boolean compares = tree.getKind() == Tree.Kind.EQUAL_TO || tree.getKind() == Tree.Kind.NOT_EQUAL_TO;
+        if (compares && (areBoth(TEXT, tree) || areBoth(NUMBER, tree))) {
             fault(6, tree, "Strings or Integers compared by " + tree.getKind());
         }
         return super.visitBinary(tree, nothing);
@@ -333,6 +333,10 @@ final class LanguageRules extends TreePathScanner<Void, Void> {
             fault(10, tree, "texts joined by +=");
         }
         return super.visitCompoundAssignment(tree, nothing);
+    }
+
+    private boolean areBoth(String type, BinaryTree tree) {
+        return is(type, tree.getLeftOperand()) && is(type, tree.getRightOperand());
     }
 
     private boolean is(String type, Tree operand) {
